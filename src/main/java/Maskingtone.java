@@ -31,7 +31,7 @@ public final class Maskingtone {
 
     private final Channel[] channels = new Channel[2];
     private final Pair[] pairs = new Pair[MOST_BLOCKS];
-    private final Frame[] sent = new Frame[MOST_BLOCKS];
+    private final Frame[] allFrames = new Frame[MOST_BLOCKS];
     private final Settings settings = new Settings();
     private final Coder coder = new Coder(settings);
     private final Receiver receiver = new Receiver(settings);
@@ -47,7 +47,7 @@ public final class Maskingtone {
         }
         for (int i = 0; i < MOST_BLOCKS; i++) {
             pairs[i] = new Pair();
-            sent[i] = new Frame(i);
+            allFrames[i] = new Frame(i);
         }
     }
 
@@ -115,13 +115,13 @@ public final class Maskingtone {
     public int order(int channel, int block, boolean isSide) throws IndexOutOfBoundsException {
         needChannel(channel);
         needPlace(block, blocks());
-        return toldOf(channel, block, isSide).degree;
+        return toldOf(channel, block, isSide).order;
     }
 
     public int parameter(int channel, int block, boolean isSide) throws IndexOutOfBoundsException {
         needChannel(channel);
         needPlace(block, blocks());
-        return toldOf(channel, block, isSide).shift;
+        return toldOf(channel, block, isSide).parameter;
     }
 
     public int residual(int channel, int block, boolean isSide, int index) throws IndexOutOfBoundsException {
@@ -260,11 +260,11 @@ public final class Maskingtone {
         }
         int sum = 0;
         int saved = 0;
-        for (int i = 0; i < blocks && i < sent.length; i++) {
-            sent[i].takeLines(linesOf(0), linesOf(1));
-            coder.tell(sent[i], linesOf(0), linesOf(1), saved);
-            saved = sent[i].saved;
-            sum += sent[i].sent.length;
+        for (int i = 0; i < blocks && i < allFrames.length; i++) {
+            allFrames[i].takeLines(linesOf(0), linesOf(1));
+            coder.tell(allFrames[i], linesOf(0), linesOf(1), saved);
+            saved = allFrames[i].saved;
+            sum += allFrames[i].sent.length;
         }
         codedCount = blocks;
         receiver.isFresh = false;
@@ -277,94 +277,94 @@ public final class Maskingtone {
 
     public int frameBits(int frame) throws IndexOutOfBoundsException {
         needPlace(frame, codedCount);
-        return sent[frame].bits.length;
+        return allFrames[frame].bits.length;
     }
 
     public int frameBit(int frame, int index) throws IndexOutOfBoundsException, NoSuchElementException {
         needPlace(frame, codedCount);
-        needBit(sent[frame].bits, index);
-        return sent[frame].bits.at(index);
+        needBit(allFrames[frame].bits, index);
+        return allFrames[frame].bits.at(index);
     }
 
     public int step(int frame, int channel, int band) throws IndexOutOfBoundsException, IllegalArgumentException {
         needPlace(frame, codedCount);
         needChannel(channel);
         needBand(band);
-        return sent[frame].steps[settings.rowOf(channel, band)];
+        return allFrames[frame].steps[settings.rowOf(channel, band)];
     }
 
     public int noise(int frame, int channel, int band) throws IndexOutOfBoundsException, IllegalArgumentException {
         needPlace(frame, codedCount);
         needChannel(channel);
         needBand(band);
-        return sent[frame].noises[settings.rowOf(channel, band)];
+        return allFrames[frame].noises[settings.rowOf(channel, band)];
     }
 
     public int noiseAnew(int frame, int channel, int band) throws IndexOutOfBoundsException, IllegalArgumentException, UnsupportedOperationException {
         needPlace(frame, codedCount);
         needChannel(channel);
         needBand(band);
-        if (receiver.read(sent[frame]) != WHOLE) {
+        if (receiver.read(allFrames[frame]) != WHOLE) {
             throw new UnsupportedOperationException("the frame is not there, or not whole");
         }
-        return settings.noiseOf(sent[frame].lines, receiver.made, channel * BLOCK, band);
+        return settings.noiseOf(allFrames[frame].lines, receiver.made, channel * BLOCK, band);
     }
 
     public int sections(int frame) throws IndexOutOfBoundsException {
         needPlace(frame, codedCount);
-        return sent[frame].parting.count;
+        return allFrames[frame].parting.count;
     }
 
     public int bookOf(int frame, int channel, int band) throws IndexOutOfBoundsException, IllegalArgumentException {
         needPlace(frame, codedCount);
         needChannel(channel);
         needBand(band);
-        return sent[frame].parting.books[settings.rowOf(channel, band)];
+        return allFrames[frame].parting.books[settings.rowOf(channel, band)];
     }
 
     public int sectionBits(int frame) throws IndexOutOfBoundsException {
         needPlace(frame, codedCount);
-        return sent[frame].parting.bits();
+        return allFrames[frame].parting.bits();
     }
 
     public int sectionBitsAnew(int frame) throws IndexOutOfBoundsException {
         needPlace(frame, codedCount);
-        return sent[frame].parting.bitsAnew();
+        return allFrames[frame].parting.bitsAnew();
     }
 
     public int reservoir(int frame) throws IndexOutOfBoundsException {
         needPlace(frame, codedCount);
-        return sent[frame].saved;
+        return allFrames[frame].saved;
     }
 
     // ---- losses and coming back
 
     public boolean lose(int frame) throws IndexOutOfBoundsException {
         needPlace(frame, codedCount);
-        boolean wasThere = !sent[frame].isLost;
-        sent[frame].isLost = true;
+        boolean wasThere = !allFrames[frame].isLost;
+        allFrames[frame].isLost = true;
         receiver.isFresh = false;
         return wasThere;
     }
 
     public int turn(int frame, int index) throws IndexOutOfBoundsException, NoSuchElementException, UnsupportedOperationException {
         needPlace(frame, codedCount);
-        needBit(sent[frame].bits, index);
-        if (sent[frame].isLost) {
+        needBit(allFrames[frame].bits, index);
+        if (allFrames[frame].isLost) {
             throw new UnsupportedOperationException("the frame is lost");
         }
-        sent[frame].bits.turnOver(index);
+        allFrames[frame].bits.turnOver(index);
         receiver.isFresh = false;
-        return sent[frame].bits.at(index);
+        return allFrames[frame].bits.at(index);
     }
 
     public int repair(int frame) throws IndexOutOfBoundsException {
         needPlace(frame, codedCount);
-        sent[frame].sendAgain();
+        allFrames[frame].sendAgain();
         receiver.isFresh = false;
         int faulty = 0;
-        for (int i = 0; i < codedCount && i < sent.length; i++) {
-            if (receiver.read(sent[i]) != WHOLE) {
+        for (int i = 0; i < codedCount && i < allFrames.length; i++) {
+            if (receiver.read(allFrames[i]) != WHOLE) {
                 faulty++;
             }
         }
@@ -373,7 +373,7 @@ public final class Maskingtone {
 
     public char fault(int frame, int depth) throws IndexOutOfBoundsException, NoSuchElementException {
         needPlace(frame, codedCount);
-        char cause = receiver.read(sent[frame]);
+        char cause = receiver.read(allFrames[frame]);
         if (cause == WHOLE || !isWithin(depth, 0, 1)) {
             throw new NoSuchElementException("nothing is wrong so deep");
         }
@@ -384,13 +384,14 @@ public final class Maskingtone {
         needCoded();
         needChannel(channel);
         needPlace(index, length());
-        return backOf(channel)[index];
+        receiver.comeBack(allFrames, codedCount);
+        return receiver.back[channel][index];
     }
 
     public int preroll(int frame) throws IndexOutOfBoundsException {
         needPlace(frame, codedCount);
-        receiver.comeWithout(sent, codedCount, 0, receiver.whole);
-        receiver.comeWithout(sent, codedCount, frame, receiver.late);
+        receiver.comeWithout(allFrames, codedCount, 0, receiver.whole);
+        receiver.comeWithout(allFrames, codedCount, frame, receiver.late);
         for (int i = codedCount - 1; i >= frame; i--) {
             if (receiver.isOtherwise(i)) {
                 return i - frame + 1;
@@ -402,7 +403,8 @@ public final class Maskingtone {
     public long error(int channel) throws NoSuchElementException, IndexOutOfBoundsException {
         needCoded();
         needChannel(channel);
-        int[] back = backOf(channel);
+        receiver.comeBack(allFrames, codedCount);
+        int[] back = receiver.back[channel];
         int[] own = channels[channel].samples;
         long sum = 0;
         for (int i = 0; i < back.length && i < own.length; i++) {
@@ -416,10 +418,10 @@ public final class Maskingtone {
     public int arrive(int frame, int time) throws IndexOutOfBoundsException, IllegalArgumentException {
         needPlace(frame, codedCount);
         need(isWithin(time, 0, 1000));
-        sent[frame].arrival = time;
+        allFrames[frame].arrival = time;
         int arrived = 0;
-        for (int i = 0; i < codedCount && i < sent.length; i++) {
-            if (sent[i].arrival != NEVER) {
+        for (int i = 0; i < codedCount && i < allFrames.length; i++) {
+            if (allFrames[i].arrival != NEVER) {
                 arrived++;
             }
         }
@@ -432,18 +434,18 @@ public final class Maskingtone {
             return -1;
         }
         int due = (time - delay) / PLAYING;
-        if (due >= codedCount || due >= sent.length) {
+        if (due >= codedCount || due >= allFrames.length) {
             return -1;
         }
-        int arrival = sent[due].arrival;
+        int arrival = allFrames[due].arrival;
         return arrival == NEVER || arrival > PLAYING * due + delay ? -2 : due;
     }
 
     public int leastDelay() throws NoSuchElementException {
         int least = -1;
-        for (int i = 0; i < codedCount && i < sent.length; i++) {
-            if (sent[i].arrival != NEVER) {
-                least = Math.max(least, Math.max(0, sent[i].arrival - PLAYING * i));
+        for (int i = 0; i < codedCount && i < allFrames.length; i++) {
+            if (allFrames[i].arrival != NEVER) {
+                least = Math.max(least, Math.max(0, allFrames[i].arrival - PLAYING * i));
             }
         }
         if (least < 0) {
@@ -523,9 +525,9 @@ public final class Maskingtone {
             throw new ArithmeticException("nothing was coded");
         }
         long sum = 0;
-        for (int i = 0; i < codedCount && i < sent.length; i++) {
+        for (int i = 0; i < codedCount && i < allFrames.length; i++) {
             for (int row = 0; row < rows && row < MOST_ROWS; row++) {
-                sum += sent[i].noises[row];
+                sum += allFrames[i].noises[row];
             }
         }
         return (double) sum / (double) count;
@@ -588,7 +590,7 @@ public final class Maskingtone {
         receiver.isFresh = false;
         for (int i = 0; i < MOST_BLOCKS; i++) {
             pairs[i].isFresh = false;
-            sent[i].arrival = NEVER;
+            allFrames[i].arrival = NEVER;
         }
     }
 
@@ -619,13 +621,6 @@ public final class Maskingtone {
             hasLines = true;
         }
         return channels[channel].lines;
-    }
-
-    private int[] backOf(int channel) {
-        if (!receiver.isFresh) {
-            receiver.comeBack(sent, codedCount);
-        }
-        return receiver.back[channel];
     }
 
     private int editedPlace(int index) {
@@ -668,8 +663,8 @@ public final class Maskingtone {
     }
 
     private boolean areFramesSound() {
-        for (int i = 0; i < codedCount && i < sent.length; i++) {
-            Frame frame = sent[i];
+        for (int i = 0; i < codedCount && i < allFrames.length; i++) {
+            Frame frame = allFrames[i];
             if (receiver.readBits(frame.sent, frame.number) != WHOLE || !isNoiseAsTold(frame)) {
                 return false;
             }
@@ -987,92 +982,89 @@ public final class Maskingtone {
     /** A block told without loss: by an order, a parameter and residuals. */
     private static final class Told {
         private static final int MOST_ORDER = 3;
-        private static final int MOST_SHIFT = 14;
+        private static final int MOST_PARAMETER = 14;
         private static final int HEAD = 6;
         /** As many as there are bits at most. */
         private static final int MOST_ONES = 2048;
 
         private final int[] values = new int[BLOCK];
         private final int[] residuals = new int[BLOCK];
-        private int degree;
-        private int shift;
+        private int order;
+        private int parameter;
         private int bits;
 
-        private int predicted(int order, int place) {
-            int known = Math.min(order, place);
-            if (known <= 0) {
+        private int predicted(int by, int place) {
+            int known = Math.min(by, place);
+            if (known <= 0 || place > values.length) {
                 return 0;
             }
-            int last = at(values, place - 1);
-            int ahead = at(values, place - 2);
+            int last = values[place - 1];
             if (known == 1) {
                 return last;
             }
-            if (known == 2) {
-                return 2 * last - ahead;
-            }
-            return 3 * last - 3 * ahead + at(values, place - 3);
+            int ahead = values[place - 2];
+            return known == 2 ? 2 * last - ahead : 3 * last - 3 * ahead + values[place - 3];
         }
 
         /** What the values are told by, once they stand. */
         private void choose() {
-            degree = 0;
+            order = 0;
             for (int other = 1; other <= MOST_ORDER; other++) {
-                if (residualSum(other) < residualSum(degree)) {
-                    degree = other;
+                if (residualSum(other) < residualSum(order)) {
+                    order = other;
                 }
             }
             for (int i = 0; i < BLOCK; i++) {
-                residuals[i] = values[i] - predicted(degree, i);
+                residuals[i] = values[i] - predicted(order, i);
             }
-            shift = 0;
-            for (int other = 1; other <= MOST_SHIFT; other++) {
-                if (bitsBy(other) < bitsBy(shift)) {
-                    shift = other;
+            parameter = 0;
+            for (int other = 1; other <= MOST_PARAMETER; other++) {
+                if (bitsBy(other) < bitsBy(parameter)) {
+                    parameter = other;
                 }
             }
-            bits = HEAD + bitsBy(shift);
+            bits = HEAD + bitsBy(parameter);
         }
 
-        private int residualSum(int order) {
+        private int residualSum(int by) {
             int sum = 0;
             for (int i = 0; i < BLOCK; i++) {
-                sum += Math.abs(values[i] - predicted(order, i));
+                sum += Math.abs(values[i] - predicted(by, i));
             }
             return sum;
         }
 
-        private int bitsBy(int parameter) {
+        private int bitsBy(int by) {
             int sum = 0;
             for (int i = 0; i < BLOCK; i++) {
-                sum += (numberOf(residuals[i]) >> parameter) + 1 + parameter;
+                sum += (numberOf(residuals[i]) >> by) + 1 + by;
             }
             return sum;
         }
 
         private void putInto(Bits row) {
-            row.put(degree, 2);
-            row.put(shift, 4);
+            row.put(order, 2);
+            row.put(parameter, 4);
             for (int i = 0; i < BLOCK; i++) {
                 int number = numberOf(residuals[i]);
-                for (int ones = number >> shift; ones > 0; ones--) {
+                for (int ones = number >> parameter; ones > 0; ones--) {
                     row.put(1, 1);
                 }
                 row.put(0, 1);
-                row.put(number, shift);
+                row.put(number, parameter);
             }
         }
 
         private void takeFrom(Bits row) {
-            degree = row.take(2);
-            shift = row.take(4);
+            order = row.take(2);
+            parameter = row.take(4);
             for (int i = 0; i < BLOCK; i++) {
                 int ones = 0;
                 while (ones < MOST_ONES && row.take(1) == 1) {
                     ones++;
                 }
-                residuals[i] = valueOf((ones << shift) | row.take(shift));
-                values[i] = predicted(degree, i) + residuals[i];
+                residuals[i] = valueOf((ones << parameter) | row.take(parameter));
+                values[i] = predicted(order, i) + residuals[i];
             }
         }
     }
@@ -1230,11 +1222,11 @@ public final class Maskingtone {
         }
 
         private int firstOf(int band) {
-            return band <= 0 ? 0 : 1 << (levels - band);
+            return band <= 0 || band > levels ? 0 : 1 << (levels - band);
         }
 
         private int strideOf(int band) {
-            return band <= 0 ? 1 << levels : 2 << (levels - band);
+            return band <= 0 || band > levels ? 1 << levels : 2 << (levels - band);
         }
 
         private int strengthOf(int[] lines, int from, int band) {
@@ -1309,7 +1301,8 @@ public final class Maskingtone {
         }
 
         private int costOf(int row, int book) {
-            return at(costs, row * BOOKS + book);
+            int place = row * BOOKS + book;
+            return place >= 0 && place < costs.length ? costs[place] : 0;
         }
 
         private void choose(int allRows) {
@@ -1640,7 +1633,18 @@ public final class Maskingtone {
             }
             row.readFrom(16, end);
             readHeads(row);
-            return readSections(row) && row.place == end ? WHOLE : 'e';
+            int behind = 0;
+            int book = 0;
+            for (int i = 0; i < settings.rows() && i < MOST_ROWS; i++) {
+                if (i == behind) {
+                    book = row.take(2);
+                    behind = i + row.take(3) + 1;
+                }
+                if (book >= BOOKS || behind > settings.rows() || !readRow(row, i, settings.books[book])) {
+                    return 'e';
+                }
+            }
+            return row.place == end ? WHOLE : 'e';
         }
 
         private void readHeads(Bits row) {
@@ -1650,21 +1654,6 @@ public final class Maskingtone {
                 steps[i] = isNoise ? NOISE : value;
                 told[i] = isNoise ? value : 0;
             }
-        }
-
-        private boolean readSections(Bits row) {
-            int behind = 0;
-            int book = 0;
-            for (int i = 0; i < settings.rows() && i < MOST_ROWS; i++) {
-                if (i == behind) {
-                    book = row.take(2);
-                    behind = i + row.take(3) + 1;
-                }
-                if (book >= BOOKS || behind > settings.rows() || !readRow(row, i, settings.books[book])) {
-                    return false;
-                }
-            }
-            return true;
         }
 
         private boolean readRow(Bits bits, int row, Book book) {
@@ -1689,6 +1678,9 @@ public final class Maskingtone {
         }
 
         private void comeBack(Frame[] frames, int count) {
+            if (isFresh) {
+                return;
+            }
             for (int i = 0; i < count && i < frames.length; i++) {
                 if (read(frames[i]) == WHOLE) {
                     put(back, i);

@@ -10,6 +10,7 @@ public final class CodingTest {
         testSteps();
         testNoiseTold();
         testNoiseKept();
+        testTwiceTheStrength();
         testLoudStrength();
         testRate();
         testRateTooLow();
@@ -203,6 +204,20 @@ public final class CodingTest {
         peak.code();
         CHECK.due("not a peak", peak.step(0, 0, 3) >= 0, true);
         CHECK.due("peaks of band 2 in 8 lines", peak.step(0, 0, 2) >= 0, peak.line(0, 10) != 0 && peak.strength(0, 0, 2) * 2 < peak.line(0, 10));
+    }
+
+    private static void testTwiceTheStrength() {
+        Maskingtone house = alternating(5);
+        // at the end of the channel, a line moves by as much as its sample
+        house.setSample(0, 31, -15);
+        CHECK.due("greatest", house.line(0, 31), -20);
+        CHECK.due("strength", house.strength(0, 0, 2), 10);
+        house.code();
+        CHECK.due("just twice", house.step(0, 0, 2), -1);
+        house.setSample(0, 31, -16);
+        CHECK.due("greatest", house.line(0, 31), -21);
+        house.code();
+        CHECK.due("more than twice", house.step(0, 0, 2) >= 0, true);
     }
 
     /** The strength is told in 15 bits, whatever it is. */

@@ -151,7 +151,7 @@ public final class FaceTest {
         Matcher made = Pattern.compile("(?m)^(.*)\\bnew (?!\\w+Exception)(.*)$").matcher(code);
         while (made.find()) {
             String line = made.group().trim();
-            boolean isField = line.startsWith("private ") || line.startsWith("channels[i] =") || line.startsWith("pairs[i] =") || line.startsWith("sent[i] =");
+            boolean isField = line.startsWith("private ") || line.startsWith("channels[i] =") || line.startsWith("pairs[i] =") || line.startsWith("allFrames[i] =");
             CHECK.due("made with the object: " + line, isField, true);
         }
     }

@@ -122,6 +122,21 @@ public final class LinesTest {
         CHECK.due("what is quiet in the other", own.mask(0, 0, 1), 2);
         own.setQuiet(0, 13);
         CHECK.due("what is quiet", own.mask(0, 1, 0), 13);
+        Maskingtone loud = withOne(3, 1, 40, 32000);
+        loud.setQuiet(0, 0);
+        // -16000 at 39 and 41: a strength of 2000; 24000 and twice -4000: 2000
+        CHECK.due("strength", loud.strength(0, 1, 0), 2000);
+        CHECK.due("an eighth", loud.mask(0, 1, 0), 250);
+        CHECK.due("a 32nd", loud.mask(0, 2, 0), 62);
+        CHECK.due("a 64th", loud.mask(0, 0, 0), 31);
+        Maskingtone louder = withOne(3, 1, 41, 32000);
+        louder.setQuiet(0, 0);
+        louder.setQuiet(1, 0);
+        // 32000 at 41 and twice 8000: strengths of 2000 and 1000
+        CHECK.due("a 32nd, cut", louder.mask(0, 2, 0), 31);
+        CHECK.due("a 64th, cut", louder.mask(0, 0, 0), 15);
+        CHECK.due("a 16th or an eighth", louder.mask(0, 1, 1), 250);
+        CHECK.due("an eighth", louder.mask(0, 1, 0), 125);
         Maskingtone same = new Maskingtone();
         same.shape(0, 'q', 1600, 64, 32);
         same.setLevels(2);

@@ -257,7 +257,11 @@ public final class LossTest {
         for (int i = 0; i < 4; i++) {
             CHECK.due("preroll of silence", silent.preroll(i), 0);
         }
-        CHECK.due("preroll of the same, which needs nothing ahead", house(4, 5000).preroll(2), 0);
+        Maskingtone same = house(4, 5000);
+        for (int i = 0; i < 4; i++) {
+            CHECK.due("preroll of the same, which needs nothing ahead", same.preroll(i), 0);
+            CHECK.due("preroll of the same, again", same.preroll(3 - i), 0);
+        }
         Maskingtone house = new Maskingtone();
         house.shape(0, 'n', 5000, 7, 64);
         house.shape(0, 'n', 5000, 8, 64);
