@@ -587,7 +587,6 @@ public final class Maskingtone {
     private void forget() {
         hasLines = false;
         codedCount = 0;
-        receiver.isFresh = false;
         for (int i = 0; i < MOST_BLOCKS; i++) {
             pairs[i].isFresh = false;
             allFrames[i].arrival = NEVER;
@@ -866,10 +865,13 @@ public final class Maskingtone {
             return place + half < length ? place + half : place - half;
         }
 
+        /** Asks for what a line is made of, down to samples. */
         private static int anew(int[] samples, int length, int levels, int place) {
             for (int level = 1; level <= levels && level <= MOST_LEVELS; level++) {
-                if ((place & ((1 << level) - 1)) != 0) {
-                    return detailAnew(samples, length, level, place);
+                int half = 1 << (level - 1);
+                if ((place & half) != 0) {
+                    int own = smoothAnew(samples, length, level - 1, place - half);
+                    return detailAnew(samples, length, level, place, place + half, own);
                 }
             }
             return smoothAnew(samples, length, Math.min(levels, MOST_LEVELS), place);
@@ -880,19 +882,19 @@ public final class Maskingtone {
                 return at(samples, place);
             }
             int half = 1 << (level - 1);
-            int left = detailAnew(samples, length, level, before(place, half));
-            int right = detailAnew(samples, length, level, behind(place, half, length));
-            return smoothAnew(samples, length, level - 1, place) + ((left + right + 2) >> 2);
+            int own = smoothAnew(samples, length, level - 1, place);
+            int right = detailAnew(samples, length, level, place + half, place + 2 * half, own);
+            int left = place < half ? right : detailAnew(samples, length, level, place - half, place - 2 * half, own);
+            return own + ((left + right + 2) >> 2);
         }
 
-        private static int detailAnew(int[] samples, int length, int level, int place) {
+        /** One neighbour has been asked for already; the other one, if it is not there, is that again. */
+        private static int detailAnew(int[] samples, int length, int level, int place, int far, int near) {
             if (level <= 0) {
                 return 0;
             }
-            int half = 1 << (level - 1);
-            int left = smoothAnew(samples, length, level - 1, before(place, half));
-            int right = smoothAnew(samples, length, level - 1, behind(place, half, length));
-            return smoothAnew(samples, length, level - 1, place) - ((left + right) >> 1);
+            int other = far >= 0 && far < length ? smoothAnew(samples, length, level - 1, far) : near;
+            return smoothAnew(samples, length, level - 1, place) - ((near + other) >> 1);
         }
     }
 
@@ -1009,8 +1011,11 @@ public final class Maskingtone {
         /** What the values are told by, once they stand. */
         private void choose() {
             order = 0;
+            int least = residualSum(0);
             for (int other = 1; other <= MOST_ORDER; other++) {
-                if (residualSum(other) < residualSum(order)) {
+                int sum = residualSum(other);
+                if (sum < least) {
+                    least = sum;
                     order = other;
                 }
             }
@@ -1018,12 +1023,15 @@ public final class Maskingtone {
                 residuals[i] = values[i] - predicted(order, i);
             }
             parameter = 0;
+            int fewest = bitsBy(0);
             for (int other = 1; other <= MOST_PARAMETER; other++) {
-                if (bitsBy(other) < bitsBy(parameter)) {
+                int sum = bitsBy(other);
+                if (sum < fewest) {
+                    fewest = sum;
                     parameter = other;
                 }
             }
-            bits = HEAD + bitsBy(parameter);
+            bits = HEAD + fewest;
         }
 
         private int residualSum(int by) {
@@ -1324,15 +1332,17 @@ public final class Maskingtone {
             }
         }
 
-        /** The longest are tried first, of one length the lower books first, so that only fewer bits win. */
+        /** The lower books are tried first, so that of as many bits only a longer section wins. */
         private void chooseFirst(int row) {
-            int longest = Math.min(MOST_SECTION, rows - row);
             least[row] = Integer.MAX_VALUE;
-            for (int span = longest; span >= 1; span--) {
-                for (int book = 0; book < BOOKS; book++) {
-                    int sum = SECTION_HEAD + spanCost(row, span, book) + at(least, row + span);
-                    if (sum < least[row]) {
-                        least[row] = sum;
+            spans[row] = 0;
+            for (int book = 0; book < BOOKS; book++) {
+                int own = SECTION_HEAD;
+                for (int span = 1; span <= MOST_SECTION && row + span <= rows; span++) {
+                    own += costOf(row + span - 1, book);
+                    int all = own + least[row + span];
+                    if (all < least[row] || all == least[row] && span > spans[row]) {
+                        least[row] = all;
                         spans[row] = span;
                         picks[row] = book;
                     }

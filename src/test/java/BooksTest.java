@@ -28,6 +28,9 @@ public final class BooksTest {
         CHECK.noOperation("too short", () -> house.setLength(1, 0, 2));
         CHECK.noOperation("too short", () -> house.setLength(0, 7, 6));
         CHECK.due("unchanged", house.lengthOf(0, 7), 7);
+        CHECK.due("longer", house.setLength(0, 7, 8), 7);
+        CHECK.noOperation("a sum of 257", () -> house.setLength(0, 6, 6));
+        CHECK.due("as before", house.setLength(0, 7, 7), 8);
         CHECK.due("the same", house.setLength(0, 7, 7), 7);
         CHECK.due("longer", house.setLength(0, 0, 8), 1);
         dueBook(house, 0, new int[] {8, 2, 3, 4, 5, 6, 7, 7}, 0b10000000, 0, 0b010, 0b0110, 0b01110, 0b011110, 0b0111110, 0b0111111);

@@ -203,7 +203,13 @@ public final class CodingTest {
         peak.setNoise(true);
         peak.code();
         CHECK.due("not a peak", peak.step(0, 0, 3) >= 0, true);
-        CHECK.due("peaks of band 2 in 8 lines", peak.step(0, 0, 2) >= 0, peak.line(0, 10) != 0 && peak.strength(0, 0, 2) * 2 < peak.line(0, 10));
+        // 125 at 10 and -125 at 6, a strength of 31
+        CHECK.due("not two peaks in 8 lines", peak.step(0, 0, 2) >= 0, true);
+        peak.shape(1, 'z', 0, 2, 32);
+        peak.setSample(1, 9, 1000);
+        peak.setSample(0, 9, 0);
+        peak.code();
+        CHECK.due("not a peak of the channel 1", peak.step(0, 1, 3) >= 0, true);
     }
 
     private static void testTwiceTheStrength() {

@@ -88,6 +88,11 @@ public final class LosslessTest {
         for (int i = 0; i < values.length; i++) {
             CHECK.due("residual " + i, house.residual(0, 0, false, i), values[i]);
         }
+        // each number, 2 or 1, takes as many bits by 0 as by 1
+        Maskingtone even = new Maskingtone();
+        even.shape(0, 'q', 1, 2, 32);
+        CHECK.due("parameter, the least of several", even.parameter(0, 0, false), 0);
+        CHECK.due("pairBits", even.pairBits(0), 1 + 6 + 80 + 6 + 32);
         // 31 numbers of 2 bits and one of 1800
         Maskingtone peaky = new Maskingtone();
         peaky.shape(0, 'q', 1, 2, 32);

@@ -43,6 +43,7 @@ public final class LoudnessTest {
         CHECK.due("none ahead", with(1000, 1000, -60).truePeak(0), (18000 + 60) / 16);
         CHECK.due("rounded down", with(0, -1000, -1001, 0).truePeak(0), 1126);
         CHECK.due("rounded down", with(0, 1000, 1001, 0).truePeak(0), 1125);
+        CHECK.due("the first one by itself", with(1000, 0, 0).truePeak(0), 1000);
         CHECK.due("a sample by itself", with(0, 0, -1000).truePeak(0), 1000);
         int[] ends = new int[32];
         ends[30] = 1000;
@@ -89,6 +90,11 @@ public final class LoudnessTest {
         Maskingtone low = new Maskingtone();
         low.shape(0, 'i', 5, 64, 32);
         CHECK.due("a mean of 0", low.loudness(0), 0L);
+        Maskingtone ones = new Maskingtone();
+        ones.shape(0, 'q', 1, 2, 31);
+        CHECK.due("a mean of 31 / 32", ones.loudness(0), 0L);
+        ones.shape(0, 'q', 1, 2, 1);
+        CHECK.due("a mean of 1", ones.loudness(0), 1L);
     }
 
     private static void testLimit() {
