@@ -37,23 +37,6 @@ public final class CodingTest {
         CHECK.noElement("code of nothing", () -> house.code());
     }
 
-    private static String bits(Maskingtone house, int frame) {
-        StringBuilder text = new StringBuilder();
-        for (int i = 0; i < house.frameBits(frame); i++) {
-            text.append(house.frameBit(frame, i));
-        }
-        return text.toString();
-    }
-
-    private static String check(String bits) {
-        int sum = 0;
-        for (int i = 0; i < bits.length(); i++) {
-            sum += bits.charAt(i) == '1' ? (i + 1) % 251 : 0;
-        }
-        String text = Integer.toBinaryString(256 + sum % 256);
-        return text.substring(text.length() - 8);
-    }
-
     private static void testSilence() {
         Maskingtone house = new Maskingtone();
         house.shape(0, 'z', 0, 2, 33);
@@ -61,7 +44,7 @@ public final class CodingTest {
         CHECK.due("frames", house.frames(), 2);
         CHECK.due("frameBits", house.frameBits(1), 133);
         String due = "10100111" + "00000001" + "01111".repeat(8) + "00" + "111" + "0".repeat(64);
-        CHECK.due("bits", bits(house, 1), due + check(due));
+        CHECK.due("bits", Told.bits(house, 1), due + Told.check(due));
         for (int band = 0; band < 4; band++) {
             CHECK.due("step", house.step(0, 1, band), 15);
             CHECK.due("noise", house.noise(0, 1, band), 0);
@@ -82,7 +65,7 @@ public final class CodingTest {
         CHECK.due("code", house.code(), 16 + 50 + 74 + 8);
         CHECK.due("sections", house.sections(0), 2);
         String due = "10100111" + "00000000" + "01111".repeat(10) + "00" + "111" + "0".repeat(32 + 8) + "00" + "001" + "0".repeat(24);
-        CHECK.due("bits", bits(house, 0), due + check(due));
+        CHECK.due("bits", Told.bits(house, 0), due + Told.check(due));
         house.setLevels(1);
         CHECK.due("code of four bands", house.code(), 16 + 20 + 69 + 8);
         // with the same lengths in each book, the lowest one
@@ -115,7 +98,7 @@ public final class CodingTest {
         CHECK.due("decoded", house.decoded(1, 9), 288);
         CHECK.due("decoded", house.decoded(0, 9), 0);
         CHECK.due("error", house.error(1), 32L * 12);
-        String bits = bits(house, 0);
+        String bits = Told.bits(house, 0);
         String head = "10100111" + "00000000" + "01111".repeat(5) + "01101" + "01111".repeat(4);
         CHECK.due("head", bits.substring(0, 66), head);
         // two lines of 3, of the number 6, each 7 or 3 or 5 bits by the books 0, 1, 2
@@ -169,7 +152,7 @@ public final class CodingTest {
         house.code();
         CHECK.due("step of noise", house.step(0, 0, 2), -1);
         CHECK.due("step of others", house.step(0, 0, 1) >= 0 && house.step(0, 1, 2) == 15, true);
-        String bits = bits(house, 0);
+        String bits = Told.bits(house, 0);
         CHECK.due("told by its strength", bits.substring(26, 42), "1" + "000000001100100");
         // the lines of noise are made anew
         long state = 1;
@@ -235,7 +218,7 @@ public final class CodingTest {
         CHECK.due("strength", house.strength(0, 0, 2), 65535);
         house.code();
         CHECK.due("step of noise", house.step(0, 0, 2), -1);
-        CHECK.due("told strength", bits(house, 0).substring(26, 42), "1".repeat(16));
+        CHECK.due("told strength", Told.bits(house, 0).substring(26, 42), "1".repeat(16));
         CHECK.due("noiseAnew", house.noiseAnew(0, 0, 2), house.noise(0, 0, 2));
         CHECK.due("isSound", house.isSound(), true);
     }
@@ -333,16 +316,14 @@ public final class CodingTest {
     /** The least bits and the books follow from the codes in the frame. */
     private static void testPartings() {
         for (int seed = 2; seed < 30; seed++) {
-            Maskingtone house = new Maskingtone();
-            house.shape(0, 'n', seed * 500, seed, 32);
-            house.shape(1, 'i', seed * 30, seed, 32);
-            house.setLevels(1 + seed % 4);
+            int own = seed;
+            Maskingtone house = partedHouse(seed);
             int total = house.code();
             int rows = 2 * (2 + seed % 4);
             CHECK.due("sectionBitsAnew", house.sectionBitsAnew(0), house.sectionBits(0));
             CHECK.due("code", total, 24 + 5 * rows + house.sectionBits(0));
-            String bits = bits(house, 0);
-            CHECK.due("check", bits.substring(total - 8), check(bits.substring(0, total - 8)));
+            String bits = Told.bits(() -> coded(partedHouse(own)), 0);
+            CHECK.due("check", bits.substring(total - 8), Told.check(bits.substring(0, total - 8)));
             int section = Integer.parseInt(bits.substring(16 + 5 * rows, 18 + 5 * rows), 2);
             CHECK.due("first book", section, house.bookOf(0, 0, 0));
             int changes = 1;
@@ -352,6 +333,19 @@ public final class CodingTest {
             }
             CHECK.due("sections", house.sections(0) >= changes, true);
         }
+    }
+
+    private static Maskingtone partedHouse(int seed) {
+        Maskingtone house = new Maskingtone();
+        house.shape(0, 'n', seed * 500, seed, 32);
+        house.shape(1, 'i', seed * 30, seed, 32);
+        house.setLevels(1 + seed % 4);
+        return house;
+    }
+
+    private static Maskingtone coded(Maskingtone house) {
+        house.code();
+        return house;
     }
 
     private static void testTakenAway() {

@@ -57,9 +57,9 @@ public final class LossTest {
     }
 
     private static void testTurn() {
-        Maskingtone house = house(2, 500);
-        int bits = house.frameBits(0);
+        int bits = house(2, 500).frameBits(0);
         for (int i = 0; i < bits; i++) {
+            Maskingtone house = house(2, 500);
             int before = house.frameBit(0, i);
             CHECK.due("turn", house.turn(0, i), 1 - before);
             CHECK.due("frameBit", house.frameBit(0, i), 1 - before);
@@ -68,6 +68,7 @@ public final class LossTest {
             CHECK.due("turn back", house.turn(0, i), before);
             dueWhole("turned twice", house, 0);
         }
+        Maskingtone house = house(2, 500);
         house.turn(0, 20);
         CHECK.due("lose a turned one", house.lose(0), true);
         dueCause("lost, not turned", house, 0, 'l');
@@ -87,58 +88,44 @@ public final class LossTest {
         CHECK.due("noise stays", house.noise(1, 0, 1), 0);
     }
 
-    private static void mend(Maskingtone house, int frame) {
-        int end = house.frameBits(frame) - 8;
-        int sum = 0;
-        for (int i = 0; i < end; i++) {
-            sum += house.frameBit(frame, i) * ((i + 1) % 251);
-        }
-        for (int i = 0; i < 8; i++) {
-            if (house.frameBit(frame, end + i) != ((sum >> (7 - i)) & 1)) {
-                house.turn(frame, end + i);
-            }
-        }
-    }
-
     private static void tamper(String what, Maskingtone house, char cause, int... bits) {
         for (int bit : bits) {
             house.turn(0, bit);
         }
-        mend(house, 0);
+        Told.mend(house, 0);
         if (cause == ' ') {
             dueWhole(what, house, 0);
         } else {
             dueCause(what, house, 0, cause);
         }
-        house.repair(0);
+    }
+
+    private static Maskingtone silence(int levels) {
+        Maskingtone house = new Maskingtone();
+        house.shape(0, 'z', 0, 2, 32);
+        house.setLevels(levels);
+        house.code();
+        return house;
     }
 
     private static void testUnreadable() {
-        Maskingtone house = new Maskingtone();
-        house.shape(0, 'z', 0, 2, 32);
-        house.code();
         // 16 bits, 8 bands of 5, a section of 5, 64 codes of 1, 8
-        tamper("bits left, a line is 0 by 2 bits", house, 'e', 61);
-        tamper("ends too early by a step told as noise", house, 'e', 16);
-        tamper("ends too early by a last code", house, 'e', 124);
-        tamper("bits left by a longer code", house, 'e', 61, 63);
-        tamper("no such book", house, 'e', 56, 57);
-        tamper("the section is shorter, what follows is another one", house, 'e', 58);
-        tamper("another step", house, ' ', 18);
+        tamper("bits left, a line is 0 by 2 bits", silence(3), 'e', 61);
+        tamper("ends too early by a step told as noise", silence(3), 'e', 16);
+        tamper("ends too early by a last code", silence(3), 'e', 124);
+        tamper("bits left by a longer code", silence(3), 'e', 61, 63);
+        tamper("no such book", silence(3), 'e', 56, 57);
+        tamper("the section is shorter, what follows is another one", silence(3), 'e', 58);
+        tamper("another step", silence(3), ' ', 18);
         // all codes of book 0 are 0 but those of two bits: '10' for two lines leaves one bit less
-        tamper("a book of three bits", house, 'e', 57);
-        Maskingtone few = new Maskingtone();
-        few.shape(0, 'z', 0, 2, 32);
+        tamper("a book of three bits", silence(3), 'e', 57);
+        Maskingtone few = silence(3);
         few.setLength(0, 1, 8);
         few.code();
         // without the symbol 1 at 2 bits, '10' is none of the codes
         tamper("a code is none", few, 'e', 70, 71, 72, 73, 74, 75, 76, 77);
-        Maskingtone ten = new Maskingtone();
-        ten.shape(0, 'z', 0, 2, 32);
-        ten.setLevels(4);
-        ten.code();
         // the second section, of two bands, begins behind 16 + 50 + 5 + 40 bits
-        tamper("more bands than there are", ten, 'e', 115);
+        tamper("more bands than there are", silence(4), 'e', 115);
     }
 
     private static void testTampered() {
@@ -151,7 +138,7 @@ public final class LossTest {
         // 0101 for the step 5 becomes 0111 for the step 7 of 12
         house.turn(0, 19);
         CHECK.due("not whole", house.decoded(0, 0), 0);
-        mend(house, 0);
+        Told.mend(house, 0);
         CHECK.due("lines are those that its bits tell", house.decoded(0, 0), 12);
         CHECK.due("noiseAnew", house.noiseAnew(0, 0, 0), 7);
         CHECK.due("noise", house.noise(0, 0, 0), 1);

@@ -325,6 +325,10 @@ final class Model {
     }
 
     private long[] turnedBack(long[] given) {
+        return turnedBack(given, levels);
+    }
+
+    static long[] turnedBack(long[] given, int levels) {
         long[] row = given.clone();
         for (int j = levels; j >= 1; j--) {
             int half = (1 << j) / 2;
