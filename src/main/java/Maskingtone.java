@@ -1715,21 +1715,22 @@ public final class Maskingtone {
         }
 
         private void put(int[][] rows, int frame) {
-            for (int i = 0; i < BLOCK; i++) {
-                rows[0][frame * BLOCK + i] = made[i];
-                rows[1][frame * BLOCK + i] = made[BLOCK + i];
+            int from = frame * BLOCK;
+            for (int i = 0; i < BLOCK && from + i < MOST_SAMPLES; i++) {
+                rows[0][from + i] = made[i];
+                rows[1][from + i] = made[BLOCK + i];
             }
         }
 
         private void silence(int[][] rows, int frame) {
-            for (int i = frame * BLOCK; i < (frame + 1) * BLOCK; i++) {
+            for (int i = frame * BLOCK; i < (frame + 1) * BLOCK && i < MOST_SAMPLES; i++) {
                 rows[0][i] = 0;
                 rows[1][i] = 0;
             }
         }
 
         private void hide(int[][] rows, int frame) {
-            for (int i = frame * BLOCK; i < (frame + 1) * BLOCK; i++) {
+            for (int i = frame * BLOCK; i < (frame + 1) * BLOCK && i < MOST_SAMPLES; i++) {
                 rows[0][i] = at(rows[0], i - BLOCK) / 2;
                 rows[1][i] = at(rows[1], i - BLOCK) / 2;
             }

@@ -8,6 +8,7 @@ public final class FrameEdgesTest {
         testRateRange();
         testCodeOfNone();
         testNumbers();
+        testSectionsAnew();
         testCheckModulo();
         testFrameBits();
         testFits();
@@ -83,6 +84,28 @@ public final class FrameEdgesTest {
             CHECK.due("sections", house.sections(frame), 1);
         }
         CHECK.noPlace("frame 8", () -> house.frameBits(8));
+    }
+
+    /** Sections are those of the frame as it is sent, not those that were tried on the way. */
+    private static void testSectionsAnew() {
+        Document.says(CHECK, "Returns how many sections a frame has.");
+        Maskingtone house = rows(1);
+        int bits = house.code();
+        CHECK.due("sections", house.sections(0), 2);
+        house.code();
+        CHECK.due("sections when coded again", house.sections(0), 2);
+        house.setRate(bits - 1, 0);
+        house.code();
+        // the numbers 6 and 4 by turns, of 5 and 4 by 2, are told by the book 1, too
+        CHECK.due("step", house.step(0, 0, 0), 2);
+        CHECK.due("sections by the greater step", house.sections(0), 2);
+        CHECK.due("sectionBits by the greater step", house.sectionBits(0), 5 + 16 * 3 + 5 + 48);
+        CHECK.due("the first book", house.bookOf(0, 0, 0), 1);
+        CHECK.due("the second book", house.bookOf(0, 0, 1), 0);
+        house.setRate(100, 0);
+        house.code();
+        CHECK.due("sections of nothing", house.sections(0), 1);
+        CHECK.due("the first book of nothing", house.bookOf(0, 0, 0), 0);
     }
 
     /** At one level, lines of 4 and 5 by turns: each takes 21 bits by the book 1. */

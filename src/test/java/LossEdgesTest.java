@@ -13,6 +13,7 @@ public final class LossEdgesTest {
         testOrderOfCauses();
         testEndsTooEarly();
         testBitsLeft();
+        testReadAgain();
         testCodeIsNone();
         testLongestCode();
         testSections();
@@ -30,6 +31,7 @@ public final class LossEdgesTest {
         testError();
         testErrorOfAll();
         testPrerollEnds();
+        testPrerollOfLittle();
         testPrerollOfOthers();
         testPrerollPlaces();
         CHECK.end();
@@ -154,6 +156,20 @@ public final class LossEdgesTest {
         // '10' is one line in place of two
         CHECK.due("one bit is left", turned(silence(1), CODES, CODES + 2), 'e');
         CHECK.due("many bits are left", turned(silence(1), CODES, CODES + 1, CODES + 2, CODES + 3, CODES + 4), 'e');
+    }
+
+    /** What could not be read once can be read again. */
+    private static void testReadAgain() {
+        Maskingtone house = silence(2);
+        CHECK.due("ends too early", turned(house, LAST_CODE), 'e');
+        CHECK.due("the other frame", causeOf(house, 1), ' ');
+        house.turn(0, LAST_CODE);
+        Told.mend(house, 0);
+        CHECK.due("turned back", causeOf(house, 0), ' ');
+        CHECK.due("ends too early again", turned(house, LAST_CODE), 'e');
+        CHECK.due("repair", house.repair(0), 0);
+        CHECK.due("sent again", causeOf(house, 0), ' ');
+        CHECK.due("noiseAnew", house.noiseAnew(0, 0, 0), 0);
     }
 
     private static void testCodeIsNone() {
@@ -549,6 +565,22 @@ public final class LossEdgesTest {
         Maskingtone even = Build.exact(1, EMPTY, lines);
         even.code();
         CHECK.due("by none that is asked for", even.preroll(1), 0);
+    }
+
+    /** The lines beside the first sample of a frame, 1 and 1, come to 1 by their sum and 2; 0 and 1 come to 0. */
+    private static void testPrerollOfLittle() {
+        for (int channel = 0; channel < 2; channel++) {
+            for (int ahead = 0; ahead < 2; ahead++) {
+                int[] lines = new int[64];
+                lines[31] = ahead;
+                lines[33] = 1;
+                Maskingtone house = Build.exact(1, channel == 0 ? lines : EMPTY, channel == 1 ? lines : EMPTY);
+                house.code();
+                CHECK.due("a line of " + ahead + " ahead", house.preroll(1), ahead);
+                CHECK.due("none ahead", house.preroll(0), 0);
+                CHECK.due("a line of " + ahead + " ahead, again", house.preroll(1), ahead);
+            }
+        }
     }
 
     private static void testPrerollOfOthers() {

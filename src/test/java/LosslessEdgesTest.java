@@ -16,6 +16,7 @@ public final class LosslessEdgesTest {
         testMiddle();
         testWholePairs();
         testGreatestResiduals();
+        testFoundAnew();
         testNone();
         testPlaces();
         CHECK.end();
@@ -310,6 +311,37 @@ public final class LosslessEdgesTest {
             late[i] = i < 16 ? -32768 : 32767;
         }
         duePair("a step as high as can be", () -> Build.ofSamples(late, byTurns(-32768, 32767)), 0);
+    }
+
+    /** Nothing stays of what was found for other samples. */
+    private static void testFoundAnew() {
+        Maskingtone house = new Maskingtone();
+        house.shape(0, 't', 16000, 64, 32);
+        house.shape(1, 't', 14000, 64, 32);
+        CHECK.due("order of a rise", house.order(0, 0, false), 2);
+        CHECK.due("parameter of a rise", house.parameter(0, 0, false) > 0, true);
+        CHECK.due("isStereo of rises", house.isStereo(0), true);
+        int bits = house.pairBits(0);
+        house.clear();
+        house.shape(0, 'q', 1, 2, 32);
+        CHECK.due("order", house.order(0, 0, false), 0);
+        CHECK.due("parameter", house.parameter(0, 0, false), 0);
+        CHECK.due("residual", house.residual(0, 0, false, 1), -1);
+        CHECK.due("isStereo", house.isStereo(0), false);
+        CHECK.due("pairBits", house.pairBits(0), 1 + 6 + 80 + 6 + 32);
+        CHECK.due("pairBits before were others", bits != house.pairBits(0), true);
+        CHECK.noElement("no bit is left", () -> house.bitOf(0, 125));
+        CHECK.due("returned", house.returned(0, 31), -1);
+        house.add(0, 0, 0);
+        house.setSample(0, 31, 700);
+        CHECK.due("residual of another sample", house.residual(0, 0, false, 31), 700);
+        house.limit(70);
+        CHECK.due("residual of a smaller sample", house.residual(0, 0, false, 31), 70);
+        house.add(1, 0, 100);
+        CHECK.due("residual of a sample added to", house.residual(1, 0, false, 31), 0);
+        house.shape(1, 'z', 0, 2, 32);
+        house.add(1, 0, 100);
+        CHECK.due("residual of a sample added to", house.residual(1, 0, false, 31), 70);
     }
 
     private static void testNone() {
