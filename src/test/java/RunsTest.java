@@ -9,7 +9,7 @@ import java.util.Random;
 /** All promises: runs of calls picked by a fixed generator, each answer compared with that of the Model. */
 public final class RunsTest {
     private static final Check CHECK = new Check();
-    private static final int RUNS = 60;
+    private static final int RUNS = 150;
     private static final int CALLS = 320;
     /** What later calls answer is free. */
     private static final int MOST_CALLS = 512;
