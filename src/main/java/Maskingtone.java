@@ -168,7 +168,7 @@ public final class Maskingtone {
     public int setLevels(int levels) throws IllegalArgumentException {
         need(isWithin(levels, 1, MOST_LEVELS));
         int before = settings.levels;
-        settings.levels = levels;
+        settings.takeLevels(levels);
         forget();
         return before;
     }
@@ -1208,10 +1208,27 @@ public final class Maskingtone {
 
         private final int[] quiet = {2, 2, 2, 2, 2};
         private final Book[] books = {new Book(STEEP), new Book(FLAT), new Book(GENTLE)};
-        private int levels = 3;
+        /** The band of each place of a frame. */
+        private final int[] bands = new int[BLOCK];
+        private int levels;
         private int rate = 4000;
         private int room = 2000;
         private boolean mayNoise;
+
+        private Settings() {
+            takeLevels(3);
+        }
+
+        private void takeLevels(int given) {
+            levels = given;
+            for (int i = 0; i < BLOCK; i++) {
+                int twos = 0;
+                while (twos < levels && ((i >> twos) & 1) == 0) {
+                    twos++;
+                }
+                bands[i] = levels - twos;
+            }
+        }
 
         private int rows() {
             return 2 * (levels + 1);
@@ -1229,28 +1246,24 @@ public final class Maskingtone {
             return row <= levels ? row : row - levels - 1;
         }
 
-        private int firstOf(int band) {
-            return band <= 0 || band > levels ? 0 : 1 << (levels - band);
-        }
-
-        private int strideOf(int band) {
-            return band <= 0 || band > levels ? 1 << levels : 2 << (levels - band);
-        }
-
         private int strengthOf(int[] lines, int from, int band) {
             int sum = 0;
             int count = 0;
-            for (int i = firstOf(band); i < BLOCK; i += strideOf(band)) {
-                sum += Math.abs(at(lines, from + i));
-                count++;
+            for (int i = 0; i < BLOCK; i++) {
+                if (bands[i] == band) {
+                    sum += Math.abs(at(lines, from + i));
+                    count++;
+                }
             }
             return count > 0 ? sum / count : 0;
         }
 
         private int greatestOf(int[] lines, int from, int band) {
             int most = 0;
-            for (int i = firstOf(band); i < BLOCK; i += strideOf(band)) {
-                most = Math.max(most, Math.abs(at(lines, from + i)));
+            for (int i = 0; i < BLOCK; i++) {
+                if (bands[i] == band) {
+                    most = Math.max(most, Math.abs(at(lines, from + i)));
+                }
             }
             return most;
         }
@@ -1258,9 +1271,11 @@ public final class Maskingtone {
         private int noiseOf(int[] lines, int[] made, int from, int band) {
             int sum = 0;
             int count = 0;
-            for (int i = firstOf(band); i < BLOCK; i += strideOf(band)) {
-                sum += Math.abs(at(lines, from + i) - at(made, from + i));
-                count++;
+            for (int i = 0; i < BLOCK; i++) {
+                if (bands[i] == band) {
+                    sum += Math.abs(at(lines, from + i) - at(made, from + i));
+                    count++;
+                }
             }
             return count > 0 ? (sum + count - 1) / count : 0;
         }
@@ -1280,10 +1295,12 @@ public final class Maskingtone {
 
         private void makeNoise(int[] made, int from, int band, int strength) {
             int state = 1;
-            for (int i = firstOf(band); i < BLOCK; i += strideOf(band)) {
-                state = nextState(state);
-                if (from >= 0 && from + i < made.length) {
-                    made[from + i] = noiseFrom(state, strength);
+            for (int i = 0; i < BLOCK; i++) {
+                if (bands[i] == band) {
+                    state = nextState(state);
+                    if (from >= 0 && from + i < made.length) {
+                        made[from + i] = noiseFrom(state, strength);
+                    }
                 }
             }
         }
@@ -1490,9 +1507,11 @@ public final class Maskingtone {
         private void becomeNothing(Frame frame, int row) {
             int from = settings.channelOf(row) * BLOCK;
             int band = settings.bandOf(row);
-            for (int i = from + settings.firstOf(band); i < from + BLOCK; i += settings.strideOf(band)) {
-                frame.amounts[i] = 0;
-                frame.made[i] = 0;
+            for (int i = 0; i < BLOCK; i++) {
+                if (settings.bands[i] == band) {
+                    frame.amounts[from + i] = 0;
+                    frame.made[from + i] = 0;
+                }
             }
             frame.noises[row] = settings.noiseOf(frame.lines, frame.made, from, band);
         }
@@ -1501,10 +1520,13 @@ public final class Maskingtone {
             int from = settings.channelOf(row) * BLOCK;
             int band = settings.bandOf(row);
             int size = Math.max(1, Settings.sizeOf(frame.steps[row]));
-            for (int i = from + settings.firstOf(band); i < from + BLOCK; i += settings.strideOf(band)) {
-                int amount = (Math.abs(frame.lines[i]) + size / 2) / size;
-                frame.amounts[i] = frame.lines[i] < 0 ? -amount : amount;
-                frame.made[i] = frame.amounts[i] * size;
+            for (int i = 0; i < BLOCK; i++) {
+                if (settings.bands[i] == band) {
+                    int place = from + i;
+                    int amount = (Math.abs(frame.lines[place]) + size / 2) / size;
+                    frame.amounts[place] = frame.lines[place] < 0 ? -amount : amount;
+                    frame.made[place] = frame.amounts[place] * size;
+                }
             }
             frame.noises[row] = settings.noiseOf(frame.lines, frame.made, from, band);
         }
@@ -1514,8 +1536,10 @@ public final class Maskingtone {
             int band = settings.bandOf(row);
             for (int book = 0; book < BOOKS; book++) {
                 int sum = 0;
-                for (int i = from + settings.firstOf(band); i < from + BLOCK; i += settings.strideOf(band)) {
-                    sum += settings.books[book].bitsFor(numberOf(frame.amounts[i]));
+                for (int i = 0; i < BLOCK; i++) {
+                    if (settings.bands[i] == band) {
+                        sum += settings.books[book].bitsFor(numberOf(frame.amounts[from + i]));
+                    }
                 }
                 frame.parting.costs[row * BOOKS + book] = sum;
             }
@@ -1604,8 +1628,10 @@ public final class Maskingtone {
             int from = settings.channelOf(row) * BLOCK;
             int band = settings.bandOf(row);
             Book book = settings.books[frame.parting.books[row]];
-            for (int i = from + settings.firstOf(band); i < from + BLOCK; i += settings.strideOf(band)) {
-                book.putInto(frame.sent, numberOf(frame.amounts[i]));
+            for (int i = 0; i < BLOCK; i++) {
+                if (settings.bands[i] == band) {
+                    book.putInto(frame.sent, numberOf(frame.amounts[from + i]));
+                }
             }
         }
     }
@@ -1671,15 +1697,17 @@ public final class Maskingtone {
             int band = settings.bandOf(row);
             boolean isNoise = steps[row] == NOISE;
             int size = isNoise ? 0 : Settings.sizeOf(steps[row]);
-            for (int i = from + settings.firstOf(band); i < from + BLOCK; i += settings.strideOf(band)) {
-                int number = book.takeSymbol(bits);
-                if (number == LAST_SYMBOL) {
-                    number += bits.take(EXTRA_BITS);
+            for (int i = 0; i < BLOCK; i++) {
+                if (settings.bands[i] == band) {
+                    int number = book.takeSymbol(bits);
+                    if (number == LAST_SYMBOL) {
+                        number += bits.take(EXTRA_BITS);
+                    }
+                    if (number < 0 || bits.isOver) {
+                        return false;
+                    }
+                    made[from + i] = valueOf(number) * size;
                 }
-                if (number < 0 || bits.isOver) {
-                    return false;
-                }
-                made[i] = valueOf(number) * size;
             }
             if (isNoise) {
                 settings.makeNoise(made, from, band, told[row]);
